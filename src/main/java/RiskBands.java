@@ -1018,24 +1018,14 @@ public final class RiskBands {
             start = next;
             kind = next < tape.size ? kindOf(tape.store[next]) : END;
             number = 0;
-            if (kind == WORD) {
-                passWord(tape);
-            } else if (kind == NUMBER) {
-                passNumber(tape);
-            } else if (kind != END) {
+            if (kind == SIGN || kind == STRANGE) {
                 next++;
+                return;
             }
-        }
-
-        private void passWord(Bytes tape) {
-            while (next < tape.size && kindOf(tape.store[next]) == WORD) {
-                next++;
-            }
-        }
-
-        private void passNumber(Bytes tape) {
-            while (next < tape.size && kindOf(tape.store[next]) == NUMBER) {
-                number = Math.min(number * 10 + tape.store[next] - '0', TOO_LARGE);
+            while (next < tape.size && kindOf(tape.store[next]) == kind) {
+                if (kind == NUMBER) {
+                    number = Math.min(number * 10 + tape.store[next] - '0', TOO_LARGE);
+                }
                 next++;
             }
         }
@@ -1222,7 +1212,7 @@ public final class RiskBands {
         int holder(int n) {
             int low = 0;
             int high = Math.max(size - 1, 0);
-            while (low < high) {
+            for (int steps = 0; steps < MOST_ROWS && low < high; steps++) {
                 int middle = (low + high) / 2;
                 if (casesAhead(middle + 1) > n) {
                     high = middle;
@@ -1350,8 +1340,8 @@ public final class RiskBands {
                 rowsIn[size] = 1;
                 size++;
                 // Those ahead fall already, so the first two to be joined are the last two here.
-                while (size >= 2 && !falls(size - 2)) {
-                    join(size - 2);
+                for (int n = size; n >= 2 && !falls(n - 2); n--) {
+                    join(n - 2);
                 }
             }
         }
@@ -1366,7 +1356,7 @@ public final class RiskBands {
         }
 
         void joinSmall(int fewest) {
-            while (size >= 2) {
+            for (int n = size; n >= 2; n--) {
                 int k = smallest();
                 if (cases(k) >= fewest) {
                     return;
@@ -1376,15 +1366,20 @@ public final class RiskBands {
         }
 
         void joinMany(int most) {
-            while (size >= 2 && size > most) {
-                int cheap = 0;
-                for (int k = 1; k < size - 1; k++) {
-                    if (Numbers.isLess(growthAbove(k), growthBelow(k), growthAbove(cheap), growthBelow(cheap))) {
-                        cheap = k;
-                    }
-                }
-                join(cheap);
+            for (int n = size; n >= 2 && n > most; n--) {
+                join(cheapest());
             }
+        }
+
+        /** The BAND that is joined with the next one at the least growth of ERROR. */
+        private int cheapest() {
+            int cheap = 0;
+            for (int k = 1; k < size - 1; k++) {
+                if (Numbers.isLess(growthAbove(k), growthBelow(k), growthAbove(cheap), growthBelow(cheap))) {
+                    cheap = k;
+                }
+            }
+            return cheap;
         }
 
         private boolean falls(int k) {
@@ -1392,6 +1387,9 @@ public final class RiskBands {
         }
 
         private void join(int k) {
+            if (k < 0 || k + 1 >= size) {
+                return;
+            }
             greatest[k] = greatest[k + 1];
             good[k] += good[k + 1];
             bad[k] += bad[k + 1];
