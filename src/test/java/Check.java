@@ -44,7 +44,9 @@ final class Check {
         for (int i = 0; i < bytes.length; i += 20) {
             x.feed(word(bytes, i), word(bytes, i + 4), word(bytes, i + 8), word(bytes, i + 12), word(bytes, i + 16));
         }
-        x.end(before + bytes.length);
+        if (x.end(before + bytes.length) < 0) {
+            throw new IllegalArgumentException("too long for the TAPE: " + text);
+        }
     }
 
     private static int word(byte[] bytes, int from) {

@@ -158,7 +158,8 @@ public final class ModelTest {
                 text.append(line).append(random.nextInt(5) == 0 ? " ;\n" : ";");
             }
         }
-        return text.toString();
+        // sixty LINES with blanks would be too long for the TAPE
+        return lines.size() > 30 ? text.toString().replace(" ", "") : text.toString();
     }
 
     private String marred(String text) {
