@@ -1840,16 +1840,13 @@ public final class RiskBands {
             return (power << 52) + (long) ((v - 1.0) * 4503599627370496.0);
         }
 
+        /** Of a float that is not above 1, as no RATE is. */
         static long floatBits(float value) {
             if (!(value > 0.0f)) {
                 return 0L;
             }
             float v = value;
             long power = 127L;
-            for (int i = 0; i < 127 && v >= 2.0f; i++) {
-                v = v / 2.0f;
-                power++;
-            }
             for (int i = 0; i < 126 && v < 1.0f; i++) {
                 v = v * 2.0f;
                 power--;

@@ -38,6 +38,15 @@ public final class ActsTest {
         RiskBands y = Check.pooled(sixty(" good 99 bad 99;"));
         CHECK.same("40: large counts", y.tell(), 15);
         CHECK.text("40: OUT", Check.outOf(y), "0-59 5940 5940;");
+        StringBuilder text = new StringBuilder();
+        StringBuilder due = new StringBuilder();
+        for (int i = 0; i < 60; i++) {
+            text.append(String.format("at%dgood%dbad%d;", i * 10, i, 99 - i));
+            due.append(String.format("%d-%d %d %d;", i * 10, i * 10, i, 99 - i));
+        }
+        RiskBands z = Check.pooled(text.toString());
+        CHECK.same("40: sixty BANDS", z.tell(), due.length());
+        CHECK.text("40: OUT", Check.outOf(z), due.toString());
         CHECK.same("40: none", new RiskBands().tell(), 0);
     }
 
@@ -181,10 +190,11 @@ public final class ActsTest {
         x.outcome(1, 0);
         x.outcome(2, 1);
         x.outcome(4, 1);
+        x.outcome(5, 1);
         CHECK.same("47: above", x.overrides(0), 3);
         CHECK.same("47: below", x.overrides(1), 2);
         CHECK.same("47: above, BAD", x.overrides(2), 1);
-        CHECK.same("47: not LEARNT", x.overrides(3), 3);
+        CHECK.same("47: not LEARNT", x.overrides(3), 4);
         x.learn();
         CHECK.same("47: all LEARNT", x.overrides(3), 0);
         CHECK.same("47: above, BAD, LEARNT", x.overrides(2), 1);
@@ -321,6 +331,9 @@ public final class ActsTest {
             CHECK.same("52: ROWS", x.count(0), 3 + i);
         }
         CHECK.same("52: the latest 10 alone", x.undo(), -1);
+        for (int i = 0; i < 3; i++) {
+            CHECK.same("52: the oldest stay", x.row(i, 0), i + 1);
+        }
         CHECK.same("52: ROWS", x.count(0), 3);
     }
 

@@ -1,3 +1,7 @@
+import java.math.BigInteger;
+import java.util.Arrays;
+import java.util.Random;
+
 /** Promises 7 to 16, 29 and 31: ROWS, BANDS, RATES, ERROR, AUC, KS, the HULL. */
 public final class BandsTest {
     private static final Check CHECK = new Check("bands");
@@ -14,6 +18,8 @@ public final class BandsTest {
         leastJoinsTheFewest();
         mostJoinsTheCheapest();
         likeGrowthsJoinTheFirst();
+        growthsAreComparedExactly();
+        joinsShiftAllThatIsTold();
         promise10BandOf();
         promise11Rate();
         promise12Error();
@@ -127,6 +133,57 @@ public final class BandsTest {
         // BAD by CASES 4/4, 2/4, 0/4: (16-8)^2/128 both times
         RiskBands y = Check.pooled("at 1 good 0 bad 4;at 2 good 2 bad 2;at 3 good 4 bad 0;most 2;");
         CHECK.same("of like ones the first", y.band(0, 1), 2);
+    }
+
+    private static void growthsAreComparedExactly() {
+        for (int small = 0; small < 15625; small++) {
+            int[] counts = new int[6];
+            for (int i = 0, rest = small; i < 6; i++, rest /= 5) {
+                counts[i] = rest % 5 * 4;
+            }
+            growthsOf(counts);
+        }
+        Random random = new Random(11);
+        for (int n = 0; n < 3000; n++) {
+            growthsOf(random.ints(6, 0, 100).toArray());
+        }
+    }
+
+    /** Three ROWS, joined to two BANDS by hand if all three are PURE BANDS. */
+    private static void growthsOf(int[] counts) {
+        RiskBands x = new RiskBands();
+        for (int i = 0; i < 3; i++) {
+            x.adds(i, counts[2 * i], counts[2 * i + 1]);
+        }
+        if (x.count(13) < 3) {
+            return;
+        }
+        x.sets(1, 2);
+        BigInteger[] first = growth(counts, 0);
+        BigInteger[] second = growth(counts, 2);
+        boolean isSecond = second[0].multiply(first[1]).compareTo(first[0].multiply(second[1])) < 0;
+        CHECK.same("most 2 of " + Arrays.toString(counts), x.band(0, 6), isSecond ? 1 : 2);
+    }
+
+    private static BigInteger[] growth(int[] counts, int from) {
+        long n = counts[from] + counts[from + 1];
+        long m = counts[from + 2] + counts[from + 3];
+        long apart = counts[from + 1] * m - counts[from + 3] * n;
+        return new BigInteger[] {BigInteger.valueOf(apart * apart), BigInteger.valueOf(n * m * (n + m))};
+    }
+
+    private static void joinsShiftAllThatIsTold() {
+        // PURE BANDS of 1, 1, 2 and 1 ROWS, of which MOST joins the first two
+        RiskBands x = Check.pooled("at 1 good 1 bad 99;at 2 good 2 bad 98;at 3 good 50 bad 49;at 9 good 49 bad 50;"
+                + "at 10 good 99 bad 1;most 3;");
+        CHECK.same("joined: BANDS", x.count(3), 3);
+        int[][] due = {{1, 2, 3, 197, 2}, {3, 9, 99, 99, 2}, {10, 10, 99, 1, 1}};
+        int[] whats = {0, 1, 2, 3, 6};
+        for (int k = 0; k < 3; k++) {
+            for (int i = 0; i < whats.length; i++) {
+                CHECK.same("joined: band(" + k + ", " + whats[i] + ")", x.band(k, whats[i]), due[k][i]);
+            }
+        }
     }
 
     private static void promise10BandOf() {
@@ -267,5 +324,8 @@ public final class BandsTest {
         // RATES 1/2, 0, 2/4, 1/3: twos 1/2 over 0, 1/3 over 0
         RiskBands x = Check.pooled("at 1 good 1 bad 1;at 2 good 5 bad 0;at 3 good 2 bad 2;at 4 good 2 bad 1;");
         CHECK.same("31: inversions()", x.inversions(), 2);
+        CHECK.same("31: one", Check.pooled("at 1 good 3 bad 2;at 2 good 2 bad 3;").inversions(), 1);
+        CHECK.same("31: all", Check.pooled("at 1 good 4 bad 1;at 2 good 2 bad 3;at 3 good 0 bad 1;").inversions(), 3);
+        CHECK.same("31: like RATES", Check.pooled("at 1 good 2 bad 1;at 2 good 4 bad 2;").inversions(), 0);
     }
 }

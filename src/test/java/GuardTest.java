@@ -84,6 +84,8 @@ public final class GuardTest {
             }
             try {
                 method.invoke(x, values);
+                // ROWS and BANDS are made anew behind a change only when they are asked for
+                x.count(3);
             } catch (InvocationTargetException found) {
                 thrown.add(method.getName() + Arrays.toString(values) + " " + found.getCause());
             }

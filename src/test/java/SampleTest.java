@@ -172,6 +172,12 @@ public final class SampleTest {
         CHECK.same("38: none", x.alarm(2000), -1);
         CHECK.same("38: can't be", x.alarm(2001), -2);
         CHECK.same("38: can't be", x.alarm(-1), -2);
+        RiskBands one = Check.pooled("at 1 good 1 bad 3;at 2 good 1 bad 0;");
+        Check.sampled(one, "at 1 good 1 bad 0;");
+        one.month();
+        CHECK.same("38: the first of one", one.alarm(0), 0);
+        one.adds(2, -1, 0);
+        CHECK.same("38: one ROW", one.alarm(0), -1);
         RiskBands y = new RiskBands();
         Check.sampled(y, "at 999 good 1 bad 0;");
         y.month();

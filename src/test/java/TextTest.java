@@ -71,6 +71,10 @@ public final class TextTest {
         CHECK.same("4: COST", x.count(8), 7);
         CHECK.same("4: OPEN ones", x.count(14), 102);
         CHECK.same("4: OPEN ones of 0", x.open(0), 99);
+        for (int i = 0; i < 80; i++) {
+            x.feed(0x20202020, 0x20200a20, 0x20202020, 0x20202020, 0x20202020);
+        }
+        CHECK.same("4: a whole TAPE of blanks", x.pool(), 0);
         CHECK.same("4: blanks alone", told(x, " \n \n"), 0);
         CHECK.same("4: all gone", x.count(14) + x.count(0), 0);
         CHECK.same("4: LEAST anew", x.count(4), 1);
@@ -161,6 +165,13 @@ public final class TextTest {
         isFault("at 1 good 1 bad 1;\0", 1, 18);
         isFault("lea st 1;", 1, 0);
         isFault("5;", 1, 0);
+        isFault("atz 1 good 1 bad 1;", 1, 0);
+        isFault("ata 1 good 1 bad 1;", 1, 0);
+        isFault("at 1 good 1 bad 1 z;", 1, 18);
+        isFault("at 1 good 1 bad 1;{", 1, 18);
+        isFault("at 1 good 1 bad 1:", 1, 17);
+        isFault("at 1/ good 1 bad 1;", 1, 4);
+        isFault("`", 1, 0);
         isFault("at 1 2 good 1 bad 1;", 1, 5);
     }
 
