@@ -46,7 +46,11 @@ public final class ActsTest {
         }
         RiskBands z = Check.pooled(text.toString());
         CHECK.same("40: sixty BANDS", z.tell(), due.length());
-        CHECK.text("40: OUT", Check.outOf(z), due.toString());
+        // of each object no more bytes than it has calls
+        CHECK.text("40: OUT", Check.outOf(z, 0, 400), due.substring(0, 400));
+        RiskBands again = Check.pooled(text.toString());
+        again.tell();
+        CHECK.text("40: OUT", Check.outOf(again, 400, due.length()), due.substring(400));
         CHECK.same("40: none", new RiskBands().tell(), 0);
     }
 

@@ -159,9 +159,12 @@ final class Check {
     }
 
     static String outOf(RiskBands x) {
+        return outOf(x, 0, x.count(16));
+    }
+
+    static String outOf(RiskBands x, int from, int to) {
         StringBuilder text = new StringBuilder();
-        int bytes = x.count(16);
-        for (int i = 0; i < bytes; i++) {
+        for (int i = from; i < to; i++) {
             text.append((char) x.octet(i));
         }
         return text.toString();

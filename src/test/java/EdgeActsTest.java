@@ -710,12 +710,12 @@ public final class EdgeActsTest {
         }
         CHECK.same("call 511", x.adds(999, 7, 0), 1);
         CHECK.same("call 512", x.count(1), 7);
+        // made by five calls
         RiskBands y = ended("", 5, 0);
-        for (int i = 0; i < 254; i++) {
+        for (int i = 0; i < 253; i++) {
             CHECK.same("learn() " + i, y.learn(), 1);
             CHECK.same("undo() " + i, y.undo(), 2);
         }
-        CHECK.same("call 511", y.learn(), 1);
-        CHECK.same("call 512", y.decision(0, 4), 1);
+        CHECK.same("call 512", y.learn(), 1);
     }
 }

@@ -78,6 +78,10 @@ public final class GuardTest {
         List<String> thrown = new ArrayList<>();
         boolean more = true;
         for (int n = 0; more && n < 3000; n++) {
+            // an object is used for 512 calls, of which making it takes some 270
+            if (n % 100 == 99) {
+                x = inState(state);
+            }
             Object[] values = new Object[types.length];
             for (int i = 0; i < types.length; i++) {
                 values[i] = types[i] == long.class ? (Object) (long) edges[at[i]] : (Object) edges[at[i]];
@@ -106,14 +110,15 @@ public final class GuardTest {
     }
 
     private static void strangeBytes() {
-        RiskBands x = new RiskBands();
         for (int value = 0; value < 256; value++) {
+            RiskBands x = new RiskBands();
             boolean isBlank = value == 32 || value == 10;
             Check.feed(x, Character.toString((char) value));
             CHECK.same("pool() of byte " + value, x.pool(), isBlank ? 0 : -4);
             CHECK.same("its FAULT", x.fault(0), isBlank ? 0 : 1);
             CHECK.same("its place", x.fault(1), isBlank ? -1 : 0);
         }
+        RiskBands x = new RiskBands();
         for (int i = 0; i < 80; i++) {
             x.feed(0x39393939, 0x39393939, 0x39393939, 0x39393939, 0x39393939);
         }

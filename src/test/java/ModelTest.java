@@ -9,6 +9,8 @@ import java.util.TreeMap;
 /** Runs of random calls, the same each time, on RiskBands and on the Model: no answer may differ. */
 public final class ModelTest {
     private static final int RUNS = 400;
+    /** Behind so many calls the document promises nothing about an object. */
+    private static final int CALLS_OF_AN_OBJECT = 512;
 
     /** Of each call how often it comes, and what its arguments are like (see argument()). */
     private static final String[] CALLS = {
@@ -27,6 +29,7 @@ public final class ModelTest {
     private final List<String> deck = new ArrayList<>();
     private final List<Integer> scores = new ArrayList<>();
     private int rowsWanted;
+    private int asked;
 
     private ModelTest(long seed) {
         random = new Random(seed);
@@ -80,11 +83,18 @@ public final class ModelTest {
                 System.out.println("   in run " + run + ", call " + n);
                 return;
             }
+            if (asked >= CALLS_OF_AN_OBJECT) {
+                return;
+            }
         }
     }
 
     private long ask(Check check, RiskBands x, Model y, String name, Object... values)
             throws ReflectiveOperationException {
+        if (asked >= CALLS_OF_AN_OBJECT) {
+            return 0;
+        }
+        asked++;
         String call = name + Arrays.toString(values);
         try {
             long due = ((Number) model.get(name).invoke(y, values)).longValue();
@@ -101,7 +111,7 @@ public final class ModelTest {
     private void tellText(Check check, RiskBands x, Model y, boolean isSample) throws ReflectiveOperationException {
         byte[] bytes = marred(isSample ? sampleText() : poolText()).getBytes(
                 java.nio.charset.StandardCharsets.ISO_8859_1);
-        int before = x.count(12);
+        long before = ask(check, x, y, "count", 12);
         for (int i = 0; i < bytes.length; i += 20) {
             Object[] words = new Object[5];
             for (int k = 0; k < 5; k++) {
@@ -114,7 +124,7 @@ public final class ModelTest {
             }
             ask(check, x, y, "feed", words);
         }
-        ask(check, x, y, "end", before + bytes.length);
+        ask(check, x, y, "end", (int) before + bytes.length);
         ask(check, x, y, isSample ? "sample" : "pool");
         ask(check, x, y, "fault", 0);
         ask(check, x, y, "fault", 1);
