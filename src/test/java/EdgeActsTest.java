@@ -28,6 +28,7 @@ public final class EdgeActsTest {
         costs();
         undo();
         actsThatChangedSomething();
+        oneByOne();
         theLatestTen();
         notTheSample();
         numbersUsedAgain();
@@ -133,7 +134,7 @@ public final class EdgeActsTest {
                 new int[][] {{0, 2, 2}, {10, 1, 3}, {19, 4, 4}, {20, 3, 1}, {21, 2, 2}, {999, 4, 4}});
         // as they are ahead of all: what comes to 10 does not count for 11, which is of the same BAND
         isInferred(Check.pooled("at 10 good 1 bad 1 open 3;at 11 good 0 bad 0 open 3;"), new int[][] {{10, 3, 2}, {11, 2, 1}});
-        // products that an int does not hold: 99 times 1000 times 5940
+        // the largest products: 99 times 1000 times 5841
         RiskBands large = Check.pooled(Check.rows(0, 59, "good 0 bad 99") + "at 999 good 0 bad 0 open 99;");
         CHECK.same("infer(1000)", large.infer(1000), 99);
         CHECK.same("all BAD", large.row(59, 2), 99);
@@ -382,6 +383,10 @@ public final class EdgeActsTest {
         RiskBands full = ended("", 0, good);
         CHECK.same("all of 40", full.learn(), 40);
         CHECK.same("GOOD ones", full.count(1), 40);
+        CHECK.same("undone", full.undo(), 9);
+        CHECK.same("no GOOD ones", full.count(1), 0);
+        CHECK.same("none is LEARNT", full.overrides(3), 40);
+        CHECK.same("all of 40 again", full.learn(), 40);
     }
 
     private static void learnRefused() {
@@ -586,6 +591,36 @@ public final class EdgeActsTest {
         CHECK.text(name + " once more", Look.at(y), Look.at(z));
     }
 
+    /** Each two of them, one behind the other: the latest alone is undone, then the one ahead. */
+    private static void oneByOne() {
+        CHECK.says(0, "can be undone one by one (DECISIONS, OUTCOMES, too");
+        Supplier<RiskBands> start = () -> {
+            RiskBands x = Check.pooled("at 5 good 3 bad 4 open 2;at 6 good 0 bad 0 open 1;");
+            for (int i = 0; i < 4; i++) {
+                x.decide(5 + i, 2);
+            }
+            x.outcome(0, 1);
+            return x;
+        };
+        Act[] acts = {x -> x.adds(5, 1, -2), x -> x.sets(0, 7), x -> x.sets(1, 1), x -> x.costs(2, 3, 4),
+            x -> x.decide(9, 1), x -> x.outcome(1, 0), x -> x.outcome(2, 1), x -> x.learn(), x -> x.infer(100)};
+        for (int i = 0; i < acts.length; i++) {
+            for (int k = 0; k < acts.length; k++) {
+                if (i == k) {
+                    continue;
+                }
+                RiskBands x = start.get();
+                acts[i].on(x);
+                String first = Look.at(x);
+                x = start.get();
+                acts[i].on(x);
+                acts[k].on(x);
+                CHECK.same("undo() of " + k, x.undo(), 6);
+                CHECK.text("act " + k + " behind act " + i + ", undone", Look.at(x), first);
+            }
+        }
+    }
+
     private static void theLatestTen() {
         CHECK.says(0, "The latest 10 can be undone one by one");
         for (int many = 9; many <= 12; many++) {
@@ -627,6 +662,36 @@ public final class EdgeActsTest {
             }
             CHECK.same("learn() ahead of " + more, x.decision(0, 4), more == 9 ? 0 : 1);
             CHECK.same("BAD ones", x.count(2), more == 9 ? 0 : 1);
+        }
+        // each has what it changed by itself, behind an eleventh, too
+        RiskBands unlike = new RiskBands();
+        for (int i = 0; i < 12; i++) {
+            unlike.adds(i, i + 1, 3 * i + 2);
+        }
+        for (int left = 11; left >= 2; left--) {
+            unlike.undo();
+            CHECK.same("ROWS", unlike.count(0), left);
+            CHECK.same("GOOD ones", unlike.count(1), left * (left + 1) / 2);
+            CHECK.same("BAD ones", unlike.count(2), 3 * left * (left - 1) / 2 + 2 * left);
+        }
+        RiskBands settings = new RiskBands();
+        for (int i = 0; i < 12; i++) {
+            if (i % 3 == 2) {
+                settings.costs(i, 2 * i, 3 * i);
+            } else {
+                settings.sets(i % 3, 40 - i);
+            }
+        }
+        // LEAST, MOST, COSTS behind each undo(): the first two acts, LEAST 40, MOST 39, stay
+        int[][] due = {{31, 30, 8}, {31, 33, 8}, {34, 33, 8}, {34, 33, 5}, {34, 36, 5}, {37, 36, 5}, {37, 36, 2},
+            {37, 39, 2}, {40, 39, 2}, {40, 39, 1}};
+        for (int i = 0; i < due.length; i++) {
+            CHECK.same("undo()", settings.undo(), 9 - i);
+            CHECK.same("LEAST", settings.count(4), due[i][0]);
+            CHECK.same("MOST", settings.count(5), due[i][1]);
+            CHECK.same("COST of GOOD ones", settings.count(6), due[i][2]);
+            CHECK.same("COST of BAD ones", settings.count(7), i == 9 ? 5 : 2 * due[i][2]);
+            CHECK.same("COST of referred ones", settings.count(8), i == 9 ? 1 : 3 * due[i][2]);
         }
         // one undone makes room for one
         RiskBands y = new RiskBands();
@@ -688,6 +753,22 @@ public final class EdgeActsTest {
         }
         CHECK.same("nothing to be LEARNT", x.overrides(3), 0);
         CHECK.same("nothing to be LEARNT", x.learn(), 0);
+        // what is LEARNT stays, whatever number the OUTCOME that is undone has
+        RiskBands z = Check.pooled("");
+        for (int i = 0; i < 6; i++) {
+            z.decide(i, 2);
+        }
+        z.outcome(0, 0);
+        CHECK.same("the first alone", z.learn(), 1);
+        z.outcome(5, 1);
+        CHECK.same("the last alone", z.learn(), 1);
+        for (int i = 1; i < 5; i++) {
+            CHECK.same("outcome()", z.outcome(i, 0), 0);
+            z.undo();
+            CHECK.same("both LEARNT", z.decision(0, 4) * 10 + z.decision(5, 4), 11);
+            CHECK.same("both in the POOL", z.count(1) * 10 + z.count(2), 11);
+            CHECK.same("no OUTCOME", z.decision(i, 3), -1);
+        }
         // two learn() one behind the other, the latest of which is undone and done again
         RiskBands y = ended("", 5, 0);
         y.learn();

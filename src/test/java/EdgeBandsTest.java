@@ -4,6 +4,7 @@ public final class EdgeBandsTest {
     private static final long NO_SUCH = RiskBands.NO_SUCH;
     // RATES 3/4, 2/4, 1/4, 0
     private static final String FOUR = "at 10 good 1 bad 3;at 20 good 2 bad 2;at 30 good 3 bad 1;at 40 good 4 bad 0;";
+    private static final String UNEVEN = "at 1 good 1 bad 3;at 2 good 4 bad 2;at 3 good 2 bad 1;";
 
     public static void main(String[] args) {
         rows();
@@ -17,6 +18,7 @@ public final class EdgeBandsTest {
         countEdges();
         countFull();
         row();
+        bandOfMoreRows();
         band();
         bandOf();
         rate();
@@ -168,6 +170,18 @@ public final class EdgeBandsTest {
         CHECK.same("the second grows less", twoOf("good 0 bad 4", "good 2 bad 2", "good 3 bad 0"), 1);
         CHECK.same("the first grows less", twoOf("good 0 bad 3", "good 2 bad 2", "good 4 bad 0"), 2);
         CHECK.same("the last two of many", lastTwo(), 59);
+        // 1 and 1; 18/17 and 1; 1 and 18/17; 4/3 and 2; 2 and 4/3; 1/3 and 1/2; 1/2 and 1/3; 2 and 18/17
+        CHECK.same("1 twice", twoOf("good 0 bad 8", "good 4 bad 4", "good 8 bad 0"), 2);
+        CHECK.same("18/17 and 1", twoOf("good 0 bad 9", "good 4 bad 4", "good 8 bad 0"), 1);
+        CHECK.same("1 and 18/17", twoOf("good 0 bad 8", "good 4 bad 4", "good 9 bad 0"), 2);
+        CHECK.same("4/3 and 2", twoOf("good 0 bad 8", "good 8 bad 8", "good 16 bad 0"), 2);
+        CHECK.same("2 and 4/3", twoOf("good 0 bad 16", "good 8 bad 8", "good 8 bad 0"), 1);
+        CHECK.same("1/3 and 1/2", twoOf("good 0 bad 2", "good 2 bad 2", "good 4 bad 0"), 2);
+        CHECK.same("1/2 and 1/3", twoOf("good 0 bad 4", "good 2 bad 2", "good 2 bad 0"), 1);
+        // by a little, of large numbers
+        CHECK.same("99 and 98 CASES", twoOf("good 0 bad 99", "good 49 bad 49", "good 98 bad 0"), 1);
+        CHECK.same("98 and 99 CASES", twoOf("good 0 bad 98", "good 49 bad 49", "good 99 bad 0"), 2);
+        CHECK.same("99 CASES twice", twoOf("good 0 bad 99", "good 49 bad 49", "good 99 bad 0"), 2);
         CHECK.says(0, "They are numbered from 0, the least SCORES first.");
         RiskBands x = Check.pooled(FOUR);
         for (int k = 0; k < 4; k++) {
@@ -280,6 +294,36 @@ public final class EdgeBandsTest {
         CHECK.same("of one", Check.pooled("at 0 good 0 bad 1;").row(1, 0), -2);
     }
 
+    private static void bandOfMoreRows() {
+        CHECK.says(9, "Of BAND k, what 0: its least SCORE, 1: its greatest one, 2: GOOD ones, 3: BAD ones, 4: RATE, above, 5:"
+                + " the lower number (lowest terms), 6: ROWS, 7: CASES of the SAMPLE.");
+        // 1; 4/7, 8/10, 8/11 joined to 20/28; 1/10, 2/10 joined to 3/20; 0
+        RiskBands x = Check.pooled("at 10 good 0 bad 3;at 20 good 3 bad 4;at 30 good 2 bad 8;at 31 good 3 bad 8;"
+                + "at 50 good 9 bad 1;at 60 good 8 bad 2;at 999 good 99 bad 0;");
+        Check.sampled(x, "at 9 good 1 bad 0;at 31 good 1 bad 1;at 50 good 2 bad 0;at 998 good 1 bad 1;at 999 good 0 bad 8;");
+        isBand(x, 0, 10, 10, 0, 3, 1, 1, 1, 1);
+        isBand(x, 1, 20, 31, 8, 20, 5, 7, 3, 2);
+        isBand(x, 2, 50, 60, 17, 3, 3, 20, 2, 4);
+        isBand(x, 3, 999, 999, 99, 0, 0, 1, 1, 8);
+        // the first two are joined, what is behind them moves up
+        x.sets(1, 3);
+        isBand(x, 0, 10, 31, 8, 23, 23, 31, 4, 3);
+        isBand(x, 1, 50, 60, 17, 3, 3, 20, 2, 4);
+        isBand(x, 2, 999, 999, 99, 0, 0, 1, 1, 8);
+        x.sets(1, 2);
+        isBand(x, 0, 10, 31, 8, 23, 23, 31, 4, 3);
+        isBand(x, 1, 50, 999, 116, 3, 3, 119, 3, 12);
+        x.sets(1, 1);
+        isBand(x, 0, 10, 999, 124, 26, 13, 75, 7, 15);
+        CHECK.same("no second", x.band(1, 0), -2);
+    }
+
+    private static void isBand(RiskBands x, int k, int... due) {
+        for (int what = 0; what < 8; what++) {
+            CHECK.same("band(" + k + ", " + what + ")", x.band(k, what), due[what]);
+        }
+    }
+
     private static void band() {
         CHECK.says(9, "4: RATE, above, 5: the lower number (lowest terms)");
         // 2/4 and 0/4 and 4/4 in lowest terms
@@ -361,6 +405,12 @@ public final class EdgeBandsTest {
     }
 
     private static void error() {
+        CHECK.says(12, "ERROR as a double's bits: from 0.0 on, BAND by BAND, (double) (GOOD ones times BAD ones) by (double) its"
+                + " CASES is added.");
+        CHECK.same("one BAND", Check.pooled("at 1 good 3 bad 4;").error(), Check.bits(12.0 / 7.0));
+        CHECK.same("BANDS, not ROWS", Check.pooled("at 1 good 3 bad 4;at 2 good 2 bad 7;").error(), Check.bits(55.0 / 16.0));
+        CHECK.same("BANDS, not PURE BANDS", Check.pooled("at 1 good 1 bad 3;at 2 good 2 bad 2;most 1;").error(),
+                Check.bits(15.0 / 8.0));
         CHECK.says(12, "from 0.0 on, BAND by BAND");
         CHECK.same("no BAND", new RiskBands().error(), 0);
         CHECK.same("BAD ones, GOOD ones alone", Check.pooled("at 1 good 0 bad 9;at 2 good 9 bad 0;").error(), 0);
@@ -377,6 +427,18 @@ public final class EdgeBandsTest {
     }
 
     private static void joint() {
+        CHECK.says(13, "How much ERROR grows by joining BAND k and the next one, as a double's bits: (double) (the square of b m -"
+                + " d n) by (double) (n m times n and m together)");
+        // n 7, b 5; m 6, d 2: 30 - 14
+        CHECK.same("joint(0)", Check.pooled("at 1 good 2 bad 5;at 2 good 4 bad 2;").joint(0),
+                Check.bits(256.0 / (42.0 * 13.0)));
+        RiskBands four = Check.pooled(FOUR);
+        for (int k = 0; k < 3; k++) {
+            CHECK.same("joint(" + k + ")", four.joint(k), Check.bits(16.0 / (16.0 * 8.0)));
+        }
+        four.sets(1, 3);
+        // n 8, b 5; m 4, d 1
+        CHECK.same("BANDS, not PURE BANDS", four.joint(0), Check.bits(144.0 / (32.0 * 12.0)));
         CHECK.says(13, "n and m being their CASES, b and d their BAD ones. NO_SUCH.");
         RiskBands x = Check.pooled(Check.falling());
         CHECK.within("joint()", 0, 58, NO_SUCH, k -> x.joint(k));
@@ -395,6 +457,10 @@ public final class EdgeBandsTest {
     }
 
     private static void auc() {
+        CHECK.says(14, "AUC, what 0: above, 1: the lower number (lowest terms).");
+        // 1 GOOD one with 3 alike; 4 above 3, with 2 alike; 2 above 5, with 1 alike: 28 1/2 of 42
+        RiskBands some = Check.pooled(UNEVEN);
+        isFraction("auc()", some.auc(0), some.auc(1), 19, 28);
         CHECK.says(14, "NO_SUCH: there are no GOOD, or no BAD ones; no such what.");
         CHECK.same("none", new RiskBands().auc(0), NO_SUCH);
         CHECK.same("no BAD ones", Check.pooled("at 1 good 99 bad 0;at 2 good 1 bad 0;").auc(0), NO_SUCH);
@@ -423,6 +489,11 @@ public final class EdgeBandsTest {
     }
 
     private static void ks() {
+        CHECK.says(15, "KS, what 0: above, 1: the lower number (lowest terms), 2: its SCORE.");
+        // 1/7 beside 3/6, then 5/7 beside 5/6
+        isKs(Check.pooled(UNEVEN), 5, 14, 1);
+        // 1/4 beside 2/4, then 3/4 beside 2/4: the first
+        isKs(Check.pooled("at 7 good 1 bad 1;at 8 good 2 bad 0;at 9 good 1 bad 1;"), 1, 4, 7);
         CHECK.says(15, "NO_SUCH likewise.");
         CHECK.same("none", new RiskBands().ks(0), NO_SUCH);
         CHECK.same("no BAD ones", Check.pooled("at 1 good 99 bad 0;").ks(2), NO_SUCH);
@@ -466,6 +537,15 @@ public final class EdgeBandsTest {
         CHECK.same("above the last", x.hull(60, 0), 4170);
         CHECK.same("above the last", x.hull(60, 1), 4170);
 
+        CHECK.says(16, "CORNER i (from 0) of the HULL, what 0: GOOD ones, 1: BAD ones below it.");
+        RiskBands four = Check.pooled("at 10 good 0 bad 9;at 20 good 3 bad 4;at 30 good 2 bad 8;at 31 good 3 bad 8;"
+                + "at 50 good 9 bad 1;at 60 good 8 bad 2;at 999 good 7 bad 0;least 9999;");
+        int[][] corners = {{0, 0}, {0, 9}, {8, 29}, {25, 32}, {32, 32}, {-1, -1}};
+        for (int i = 0; i < corners.length; i++) {
+            CHECK.same("hull(" + i + ", 0)", four.hull(i, 0), corners[i][0]);
+            CHECK.same("hull(" + i + ", 1)", four.hull(i, 1), corners[i][1]);
+        }
+
         CHECK.says(16, "NONE: not so many; -2: i is below 0, no such what.");
         CHECK.same("not so many", x.hull(61, 0), -1);
         CHECK.same("not so many", x.hull(Integer.MAX_VALUE, 1), -1);
@@ -498,6 +578,12 @@ public final class EdgeBandsTest {
         isFraction("one more", flat.mixed(4, 0), flat.mixed(4, 1), 1, 2);
         RiskBands full = Check.pooled(Check.rows(0, 60, "good 99 bad 99"));
         isFraction("all of many", full.mixed(5940, 0), full.mixed(5940, 1), 5940, 1);
+        // fewer BANDS than there were
+        RiskBands fewer = Check.pooled(FOUR);
+        CHECK.same("PURE BANDS", fewer.count(13), 4);
+        fewer.adds(40, -4, 0);
+        isFraction("without the last", fewer.mixed(3, 0), fewer.mixed(3, 1), 1, 1);
+        CHECK.same("no more GOOD ones", fewer.mixed(7, 0), NO_SUCH);
 
         CHECK.says(29, "MIXED for g GOOD ones (0 .. all), what 0: above, 1: the lower number (lowest terms). NO_SUCH:"
                 + " there are no CASES; g can't be; no such what.");

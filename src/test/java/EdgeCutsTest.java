@@ -20,6 +20,7 @@ public final class EdgeCutsTest {
         median();
         between();
         split();
+        leastOfAll();
         likeSplits();
         splitAt();
         CHECK.closeWith(17, 18, 19, 20, 21, 22, 23, 24, 28, 32, 33, 34);
@@ -110,6 +111,16 @@ public final class EdgeCutsTest {
         CHECK.same("all accepted", Check.pooled("at 0 good 1 bad 0;at 999 good 1 bad 0;").cut(0), 0);
         CHECK.same("0 alone declined", Check.pooled("at 0 good 0 bad 1;at 999 good 1 bad 0;").cut(0), 1);
         CHECK.same("full", Check.pooled(FULL).cut(1), 5934060);
+        // 12 accepting all, 14 and 15 declining
+        RiskBands y = Check.pooled("at 5 good 2 bad 1;at 6 good 3 bad 2;cost 3 4 1;");
+        CHECK.same("c", y.cut(0), 0);
+        CHECK.same("three BAD ones", y.cut(1), 12);
+        y.costs(3, 6, 1);
+        CHECK.same("c", y.cut(0), 7);
+        CHECK.same("five GOOD ones", y.cut(1), 15);
+        y.costs(3, 5, 1);
+        CHECK.same("of like ones the least", y.cut(0), 0);
+        CHECK.same("either", y.cut(1), 15);
     }
 
     private static void refer() {
@@ -224,6 +235,10 @@ public final class EdgeCutsTest {
         // 1 of 60 is 16.6 of 1000
         CHECK.same("full, the last ROW", full.accepts(16), 59);
         CHECK.same("full, one ROW more", full.accepts(17), 58);
+        // 999 of 1999 are not 500 of 1000, 1000 are
+        String many = Check.rows(0, 10, "good 99 bad 1") + Check.rows(10, 9, "good 99 bad 1");
+        CHECK.same("just too few", Check.pooled(many + "at 19 good 99 bad 0;").accepts(500), 9);
+        CHECK.same("just as many", Check.pooled(many + "at 19 good 99 bad 1;").accepts(500), 10);
     }
 
     private static void capture() {
@@ -242,6 +257,9 @@ public final class EdgeCutsTest {
         CHECK.same("full, all", full.capture(1000), 5940);
         CHECK.same("full, half", full.capture(500), 2970);
         CHECK.same("full, more than half", full.capture(501), 3069);
+        String many = Check.rows(1, 9, "good 99 bad 1") + Check.rows(10, 10, "good 99 bad 1");
+        CHECK.same("just too few", Check.pooled(many + "at 0 good 98 bad 1;").capture(500), 11);
+        CHECK.same("just as many", Check.pooled(many + "at 0 good 99 bad 1;").capture(500), 10);
     }
 
     private static void median() {
@@ -315,6 +333,53 @@ public final class EdgeCutsTest {
         CHECK.same("two ROWS", x.split(2), Check.bits(4.0 / 5.0 + 9.0 / 6.0));
         x.undo();
         CHECK.same("three again", x.split(3), Check.bits(4.0 / 5.0 + 9.0 / 6.0 + 12.0 / 8.0));
+    }
+
+    /** All ways to begin the last of k runs, from the least on, as the document tells D; of each run its first ROW. */
+    private static void leastOfAll() {
+        CHECK.says(0, "SPLIT: ERROR of a run of ROWS (double): (double) (GOOD ones times BAD ones) by (double) its CASES; D of j"
+                + " ROWS, the least SCORES, in k runs: of one run its ERROR; else the least of (D of the first s ROWS in k less 1"
+                + " runs) + (ERROR of those from s to j)");
+        int[][] rows = {{3, 9}, {1, 8}, {7, 6}, {2, 2}, {9, 5}, {4, 4}, {8, 1}, {0, 3}};
+        StringBuilder text = new StringBuilder();
+        for (int i = 0; i < rows.length; i++) {
+            text.append(Check.rows(10 * i, 1, "good " + rows[i][0] + " bad " + rows[i][1]));
+        }
+        RiskBands x = Check.pooled(text.toString());
+        for (int k = 1; k <= rows.length; k++) {
+            CHECK.same("split(" + k + ")", x.split(k), Check.bits(least(rows, rows.length, k)));
+            int j = rows.length;
+            for (int i = k - 1; i >= 0; i--) {
+                j = begin(rows, j, i + 1);
+                CHECK.same("splitAt(" + k + ", " + i + ")", x.splitAt(k, i), 10 * j);
+            }
+        }
+    }
+
+    private static double least(int[][] rows, int j, int k) {
+        int s = begin(rows, j, k);
+        return k == 1 ? runError(rows, 0, j) : least(rows, s, k - 1) + runError(rows, s, j);
+    }
+
+    private static int begin(int[][] rows, int j, int k) {
+        int begin = k - 1;
+        for (int s = k; k > 1 && s < j; s++) {
+            double here = least(rows, s, k - 1) + runError(rows, s, j);
+            if (here < least(rows, begin, k - 1) + runError(rows, begin, j)) {
+                begin = s;
+            }
+        }
+        return begin;
+    }
+
+    private static double runError(int[][] rows, int s, int j) {
+        int good = 0;
+        int bad = 0;
+        for (int i = s; i < j; i++) {
+            good += rows[i][0];
+            bad += rows[i][1];
+        }
+        return (double) (good * bad) / (double) (good + bad);
     }
 
     private static void likeSplits() {

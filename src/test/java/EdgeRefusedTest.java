@@ -18,7 +18,7 @@ public final class EdgeRefusedTest {
         CHECK.says(0, "there is no such ROW, BAND, DECISION, what, number as told");
         refusedIfBusy().forEach((name, call) -> CHECK.refused(name, EdgeRefusedTest::busy, call.asked, call.due));
         CHECK.says("Not promised", "Nothing is promised beyond the answers and state changes described above");
-        asking().forEach((name, asked) -> {
+        Asking.calls().forEach((name, asked) -> {
             for (Supplier<RiskBands> maker : makers()) {
                 // what is told does not matter here, so it is asked of a twin
                 CHECK.refused(name, maker, asked, asked.applyAsLong(maker.get()));
@@ -154,48 +154,6 @@ public final class EdgeRefusedTest {
         calls.put("outcome(2, 1)", new Call(x -> x.outcome(2, 1), -5));
         calls.put("adds(5, 97, 0)", new Call(x -> x.adds(5, 97, 0), -5));
         calls.put("adds(5, 0, 90)", new Call(x -> x.adds(5, 0, 90), -5));
-        return calls;
-    }
-
-    private static Map<String, ToLongFunction<RiskBands>> asking() {
-        Map<String, ToLongFunction<RiskBands>> calls = new LinkedHashMap<>();
-        calls.put("fault(0)", x -> x.fault(0));
-        calls.put("count(3)", x -> x.count(3));
-        calls.put("row(0, 3)", x -> x.row(0, 3));
-        calls.put("band(0, 7)", x -> x.band(0, 7));
-        calls.put("bandOf(9)", x -> x.bandOf(9));
-        calls.put("rate(0, 2)", x -> x.rate(0, 2));
-        calls.put("error()", x -> x.error());
-        calls.put("joint(0)", x -> x.joint(0));
-        calls.put("auc(0)", x -> x.auc(0));
-        calls.put("ks(2)", x -> x.ks(2));
-        calls.put("hull(1, 1)", x -> x.hull(1, 1));
-        calls.put("cost(9)", x -> x.cost(9));
-        calls.put("cut(0)", x -> x.cut(0));
-        calls.put("refer(6, 9)", x -> x.refer(6, 9));
-        calls.put("two(2)", x -> x.two(2));
-        calls.put("would(7, 8)", x -> x.would(7, 8));
-        calls.put("limit(400)", x -> x.limit(400));
-        calls.put("accepts(400)", x -> x.accepts(400));
-        calls.put("capture(400)", x -> x.capture(400));
-        calls.put("drift(2)", x -> x.drift(2));
-        calls.put("chi()", x -> x.chi());
-        calls.put("mean(3)", x -> x.mean(3));
-        calls.put("median()", x -> x.median());
-        calls.put("mixed(5, 0)", x -> x.mixed(5, 0));
-        calls.put("resample(9, 2)", x -> x.resample(9, 2));
-        calls.put("inversions()", x -> x.inversions());
-        calls.put("between(5, 9, 0)", x -> x.between(5, 9, 0));
-        calls.put("split(1)", x -> x.split(1));
-        calls.put("splitAt(2, 1)", x -> x.splitAt(2, 1));
-        calls.put("off(0, 0)", x -> x.off(0, 0));
-        calls.put("share(0, 0)", x -> x.share(0, 0));
-        calls.put("alarm(9)", x -> x.alarm(9));
-        calls.put("rises(0)", x -> x.rises(0));
-        calls.put("octet(0)", x -> x.octet(0));
-        calls.put("open(10)", x -> x.open(10));
-        calls.put("decision(0, 2)", x -> x.decision(0, 2));
-        calls.put("overrides(3)", x -> x.overrides(3));
         return calls;
     }
 }

@@ -14,6 +14,7 @@ public final class EdgeSampleTest {
         mean();
         resample();
         drawnCases();
+        ofThoseDrawn();
         month();
         monthRefused();
         off();
@@ -93,6 +94,19 @@ public final class EdgeSampleTest {
         // beside 0, 0, 1
         Check.sampled(x, "at 30 good 1 bad 0;");
         CHECK.same("the last", x.drift(2), 2);
+        // fewer BANDS than there were
+        x.sets(1, 2);
+        CHECK.same("the first of two", x.drift(2), 0);
+        x.sets(1, 1);
+        CHECK.same("the only one", x.drift(2), 0);
+
+        CHECK.says(25, "DRIFT, what 0: above, 1: the lower number (lowest terms)");
+        // 4/8, 2/8, 2/8 beside 1/6, 3/6, 2/6: 8/24 and 6/24 and 2/24
+        RiskBands y = beside(THREE, "at 10 good 1 bad 0;at 20 good 1 bad 2;at 30 good 2 bad 0;");
+        isFraction("drift()", y.drift(0), y.drift(1), 2, 3);
+        // 3 of 4, 1 of 4 beside 3 of 7, 4 of 7
+        RiskBands z = beside("at 5 good 1 bad 2;at 6 good 1 bad 0;", "at 5 good 3 bad 0;at 6 good 0 bad 4;");
+        isFraction("drift()", z.drift(0), z.drift(1), 9, 14);
 
         CHECK.says(25, "NO_SUCH: there are no CASES, none of the SAMPLE; no such what.");
         CHECK.within("drift()", 0, 2, NO_SUCH, what -> x.drift(what));
@@ -118,6 +132,21 @@ public final class EdgeSampleTest {
         CHECK.same("two BANDS", two.chi(), Check.bits(due + (1.0 - f) * (1.0 - f) / f));
         RiskBands full = beside(Check.falling(), Check.rows(100, 60, "good 99 bad 99"));
         CHECK.same("full", full.chi(), 0);
+
+        CHECK.says(26, "o (double) its CASES of the SAMPLE, e (double) (its CASES times all of the SAMPLE) by (double) all"
+                + " CASES.");
+        // each other way to reckon it, which were as good on paper, has other last bits
+        RiskBands three = beside("at 1 good 0 bad 2;at 2 good 1 bad 1;at 3 good 2 bad 0;",
+                "at 1 good 1 bad 0;at 2 good 3 bad 1;at 3 good 0 bad 2;");
+        double each = 14.0 / 6.0;
+        double sum = 0.0;
+        for (double o : new double[] {1.0, 4.0, 2.0}) {
+            sum = sum + (o - each) * (o - each) / each;
+        }
+        CHECK.same("three BANDS", three.chi(), Check.bits(sum));
+        // 11880 times 11880 by 11880
+        RiskBands large = beside(Check.rows(0, 60, "good 99 bad 99"), Check.rows(0, 60, "good 99 bad 99"));
+        CHECK.same("all in one BAND", large.chi(), 0);
 
         CHECK.says(26, "NO_SUCH: there are no CASES, none of the SAMPLE.");
         CHECK.same("no SAMPLE", Check.pooled(THREE).chi(), NO_SUCH);
@@ -188,6 +217,26 @@ public final class EdgeSampleTest {
             }
             drawnOf("of sixty ROWS", full, seed);
         }
+    }
+
+    private static void ofThoseDrawn() {
+        CHECK.says(30, "Of those drawn, what 0: BAD ones, 1: the best CUT (COSTS as they are), 2: how many PURE BANDS.");
+        // few CASES, so that some ROWS are not drawn at all, the first, those between, the last
+        for (long seed = 0; seed < 100; seed++) {
+            drawnOf("of two", new int[][] {{5, 0, 1}, {6, 1, 0}}, seed);
+            drawnOf("of three", new int[][] {{5, 0, 1}, {6, 1, 0}, {7, 0, 1}}, seed);
+            drawnOf("of three", new int[][] {{5, 0, 2}, {6, 1, 1}, {7, 1, 0}}, seed);
+            drawnOf("of five", new int[][] {{5, 0, 1}, {6, 1, 0}, {7, 0, 1}, {8, 1, 0}, {9, 1, 0}}, seed);
+        }
+        RiskBands x = Check.pooled("at 5 good 1 bad 1;at 6 good 1 bad 1;");
+        boolean differs = false;
+        for (long seed = 0; seed < 50; seed++) {
+            x.costs(1, 0, 1);
+            CHECK.same("GOOD ones alone cost: accept all", x.resample(seed, 1), 0);
+            x.costs(0, 1, 1);
+            differs |= x.resample(seed, 1) != 0;
+        }
+        CHECK.same("BAD ones alone cost: decline", differs ? 1 : 0, 1);
     }
 
     /** The same drawing, by each CASE in a row of its own. */

@@ -438,6 +438,19 @@ public final class EdgeTextTest {
         CHECK.same("decide()", x.decide(7, 1), 0);
         CHECK.same("no OUTCOME", x.decision(0, 3), -1);
         CHECK.same("not LEARNT", x.decision(0, 4), 0);
+        // a LINE without open has none of the LINE that stood there in the TEXT ahead, told or faulty
+        RiskBands y = isRead("at 5 good 1 bad 2 open 9;least 7;most 7;cost 7 7 7;", 4);
+        isPooled(y, "at 6 good 1 bad 2;", 1);
+        CHECK.same("open(6)", y.open(6), 0);
+        CHECK.same("OPEN ones", y.count(14), 0);
+        Check.feed(y, "at 5 good 1 bad 2 open 9;least 7;most 7;cost 7 7 7;?");
+        CHECK.same("a FAULT", y.pool(), -4);
+        isPooled(y, "at 6 good 3 bad 4;", 1);
+        CHECK.same("open(6)", y.open(6), 0);
+        CHECK.same("GOOD ones", y.count(1), 3);
+        CHECK.same("LEAST", y.count(4), 1);
+        CHECK.same("MOST", y.count(5), 60);
+        CHECK.same("COSTS", y.count(6) * 100 + y.count(7) * 10 + y.count(8), 151);
     }
 
     /** All of it holds something: 5 has 1 GOOD and 3 BAD ones, one of these LEARNT; OUT is full. */
